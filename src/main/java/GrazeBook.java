@@ -56,6 +56,7 @@ public final class GrazeBook {
     private final Claim[] rights = new Claim[MOST_RIGHTS];
     private final Drove[] herds = new Drove[MOST_HERDS];
     private final Year year = new Year();
+    private final Cover cover = new Cover();
     private final Grazing grazing = new Grazing();
     private final Turns turns = new Turns();
     private final int[] refusals = new int[1 - ROOM];
@@ -458,8 +459,8 @@ public final class GrazeBook {
         switch (what) {
             case 0: return purse.coins;
             case 1: return purse.hay;
-            case 2: return partsOut(owner);
-            case 3: return partsHeld(owner);
+            case 2: return coverOf(owner).partsOut();
+            case 3: return coverOf(owner).partsHeld();
             default: return refuse(OTHER);
         }
     }
@@ -543,80 +544,23 @@ public final class GrazeBook {
         return parts;
     }
 
-    /** How many parts of an owner's herds that are out no right can take, however they are given out. */
-    private int lackOf(int owner) {
-        int lack = 0;
-        int sheepLeft = 0;
-        for (int p = 0; p < pieceCount; p++) {
-            int sheep = sheepPartsAt(owner, p);
-            int others = partsAt(owner, p) - sheep;
-            int leazes = partsOfLeazes(owner, p);
-            // Sheep may yet go to a walk, other beasts may not: so a leaze is theirs first.
-            lack += Math.max(0, others - leazes);
-            sheepLeft += Math.max(0, sheep - Math.max(0, leazes - others));
-        }
-        lack += Math.max(0, sheepLeft - partsOfWalks(owner));
-        return Math.max(0, lack - partsForAny(owner));
-    }
-
-    private int partsAt(int owner, int piece) {
-        int parts = 0;
+    private Cover coverOf(int owner) {
+        cover.clear();
         for (int h = 0; h < herdCount; h++) {
-            if (herds[h].owner == owner && herds[h].piece == piece) {
-                parts += herds[h].parts();
+            if (herds[h].owner == owner) {
+                cover.addHerd(herds[h]);
             }
         }
-        return parts;
-    }
-
-    private int sheepPartsAt(int owner, int piece) {
-        int parts = 0;
-        for (int h = 0; h < herdCount; h++) {
-            if (herds[h].owner == owner && herds[h].piece == piece && herds[h].sort == SHEEP) {
-                parts += herds[h].parts();
-            }
-        }
-        return parts;
-    }
-
-    private int partsOfLeazes(int owner, int piece) {
-        int parts = 0;
-        for (int r = 0; r < rightCount; r++) {
-            if (rights[r].kind == LEAZE && rights[r].piece == piece && holder(rights[r]) == owner) {
-                parts += countingParts(r);
-            }
-        }
-        return parts;
-    }
-
-    private int partsOfWalks(int owner) {
-        int parts = 0;
-        for (int r = 0; r < rightCount; r++) {
-            if (rights[r].kind == WALK && holder(rights[r]) == owner) {
-                parts += countingParts(r);
-            }
-        }
-        return parts;
-    }
-
-    private int partsForAny(int owner) {
-        int parts = 0;
-        for (int r = 0; r < rightCount; r++) {
-            if (rights[r].kind != WALK && rights[r].kind != LEAZE && holder(rights[r]) == owner) {
-                parts += countingParts(r);
-            }
-        }
-        return parts;
-    }
-
-    private int partsHeld(int owner) {
-        int parts = 0;
         for (int r = 0; r < rightCount; r++) {
             if (holder(rights[r]) == owner) {
-                parts += countingParts(r);
+                cover.addRight(rights[r], countingParts(r));
             }
         }
-        return parts;
+        return cover;
+    }
+
+    private int lackOf(int owner) {
+        return coverOf(owner).lack();
     }
 
     private int rightsInForce() {
@@ -661,14 +605,6 @@ public final class GrazeBook {
             }
         }
         return latest;
-    }
-
-    private int partsOut(int owner) {
-        int parts = 0;
-        for (int p = 0; p < pieceCount; p++) {
-            parts += partsAt(owner, p);
-        }
-        return parts;
     }
 
     private int herdsNotLost() {
@@ -787,19 +723,15 @@ public final class GrazeBook {
     private void shareHay(int piece, int hay) {
         int all = 0;
         for (int o = 0; o < ownerCount; o++) {
-            all += partsForHay(o, piece);
+            all += coverOf(o).partsForHay(piece);
         }
         int left = hay;
         for (int o = 0; o < ownerCount && all > 0; o++) {
-            int share = (int) ((long) hay * partsForHay(o, piece) / all);
+            int share = (int) ((long) hay * coverOf(o).partsForHay(piece) / all);
             owners[o].hay += share;
             left -= share;
         }
         reeve.hay += left;
-    }
-
-    private int partsForHay(int owner, int piece) {
-        return partsForAny(owner) + partsOfLeazes(owner, piece);
     }
 
     // ---- turns of herds
@@ -952,6 +884,79 @@ public final class GrazeBook {
 
         int fee(int day) {
             return daysInPound(day) * beasts;
+        }
+    }
+
+    /** One owner's parts that are out, and the parts of the rights to which they can be given out. */
+    private static final class Cover {
+        final int[] sheepOn = new int[MOST_PIECES];
+        final int[] othersOn = new int[MOST_PIECES];
+        final int[] leazesFor = new int[MOST_PIECES];
+        int walks = 0;
+        int forAny = 0;
+
+        void clear() {
+            for (int p = 0; p < MOST_PIECES; p++) {
+                sheepOn[p] = 0;
+                othersOn[p] = 0;
+                leazesFor[p] = 0;
+            }
+            walks = 0;
+            forAny = 0;
+        }
+
+        void addHerd(Drove drove) {
+            if (drove.piece < 0 || drove.piece >= MOST_PIECES) {
+                return;
+            }
+            if (drove.sort == SHEEP) {
+                sheepOn[drove.piece] += drove.parts();
+            } else {
+                othersOn[drove.piece] += drove.parts();
+            }
+        }
+
+        void addRight(Claim claim, int parts) {
+            if (claim.kind == WALK) {
+                walks += parts;
+            } else if (claim.kind != LEAZE) {
+                forAny += parts;
+            } else if (claim.piece >= 0 && claim.piece < MOST_PIECES) {
+                leazesFor[claim.piece] += parts;
+            }
+        }
+
+        /** How many parts no right can take, in whatever way they are given out. */
+        int lack() {
+            int othersLeft = 0;
+            int sheepLeft = 0;
+            for (int p = 0; p < MOST_PIECES; p++) {
+                // Sheep may yet go to a walk, other beasts may not: so a leaze is theirs first.
+                int leazeLeft = Math.max(0, leazesFor[p] - othersOn[p]);
+                othersLeft += Math.max(0, othersOn[p] - leazesFor[p]);
+                sheepLeft += Math.max(0, sheepOn[p] - leazeLeft);
+            }
+            return Math.max(0, othersLeft + Math.max(0, sheepLeft - walks) - forAny);
+        }
+
+        int partsOut() {
+            int parts = 0;
+            for (int p = 0; p < MOST_PIECES; p++) {
+                parts += sheepOn[p] + othersOn[p];
+            }
+            return parts;
+        }
+
+        int partsHeld() {
+            int parts = walks + forAny;
+            for (int p = 0; p < MOST_PIECES; p++) {
+                parts += leazesFor[p];
+            }
+            return parts;
+        }
+
+        int partsForHay(int piece) {
+            return forAny + (piece >= 0 && piece < MOST_PIECES ? leazesFor[piece] : 0);
         }
     }
 

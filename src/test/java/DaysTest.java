@@ -108,6 +108,25 @@ public final class DaysTest {
         CHECK.due("3 trodden first, then it grows to full", full.pieceOf(0, 0), 700);
         full.pass(1);
         CHECK.due("3 trodden, 2 grown", full.pieceOf(0, 0), 399);
+        treadingCut();
+    }
+
+    private static void treadingCut() {
+        GrazeBook x = common(0, 1000, true);
+        x.herd(0, 1, 1);
+        x.herd(0, 2, 9);
+        x.weather(719, 8, 0);
+        x.weather(720, 9, 0);
+        x.pass(718);
+        x.right(0, 0, 1000, 720, 0);
+        x.put(0, 0);
+        x.put(1, 0);
+        x.pass(1);
+        CHECK.due("99 parts tread nothing", x.pieceOf(0, 0), 718 + 1 - 99);
+        x.herd(0, 2, 17);
+        x.put(2, 0);
+        x.pass(1);
+        CHECK.due("201 parts tread 2, on the last day, too", x.pieceOf(0, 0), 620 - 2 + 1 - 201);
     }
 
     private static void eating() {
