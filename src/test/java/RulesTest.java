@@ -132,7 +132,7 @@ public final class RulesTest {
             books[i] = book;
             fill(book);
             long before = threads.getThreadAllocatedBytes(thread);
-            for (int call = 0; call < 100; call++) {
+            for (int call = 0; call < 50; call++) {
                 book.plan(call % 20, -1, 4, 10);
                 book.plan(call % 20, (call + 1) % 20, 2, 10);
                 book.pass(1);
