@@ -1153,9 +1153,11 @@ public final class GrazeBook {
         }
 
         private boolean isOpen() {
-            for (int slot = 0; slot < slots(); slot++) {
-                if (((open[slot / width] >> trial[slot]) & 1) == 0) {
-                    return false;
+            for (int step = 0; step < steps; step++) {
+                for (int k = 0; k < width; k++) {
+                    if (((open[step] >> trial[step * width + k]) & 1) == 0) {
+                        return false;
+                    }
                 }
             }
             return true;

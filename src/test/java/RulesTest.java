@@ -10,6 +10,8 @@ import java.util.Arrays;
 import java.util.List;
 import java.util.Set;
 import java.util.TreeSet;
+import java.util.regex.Matcher;
+import java.util.regex.Pattern;
 
 /** What ../shared/LANGUAGE.md asks of the source, as far as it can be looked up, and the room of a run. */
 public final class RulesTest {
@@ -26,6 +28,7 @@ public final class RulesTest {
         face();
         innerClasses();
         words();
+        divisors();
         shortMethods();
         room();
         CHECK.end();
@@ -105,6 +108,20 @@ public final class RulesTest {
         yes("no lambda", !code.contains("->"));
         yes("no method reference", !code.contains("::"));
         yes("all in ASCII", Files.readString(SOURCE).chars().allMatch(c -> c < 128));
+    }
+
+    /** A divisor is a constant that is not 0, or it is tested in the lines just ahead. */
+    private static void divisors() throws IOException {
+        String[] lines = code().split("\n");
+        for (int i = 0; i < lines.length; i++) {
+            Matcher divisor = Pattern.compile("[/%]=? *(\\w+)").matcher(lines[i]);
+            while (divisor.find()) {
+                String name = divisor.group(1);
+                String ahead = String.join("\n", Arrays.copyOfRange(lines, Math.max(0, i - 4), i));
+                boolean constant = name.matches("[A-Z_]+|[1-9]\\d*");
+                yes("it is tested: " + lines[i].trim(), constant || ahead.contains(name + " > 0"));
+            }
+        }
     }
 
     private static void shortMethods() throws IOException {
